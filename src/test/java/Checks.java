@@ -1,0 +1,46 @@
+/** Counts what was checked, and prints each answer that is not the one that is due. */
+final class Checks {
+    interface Call {
+        Object answer();
+    }
+
+    private int passed;
+    private int failed;
+
+    void due(String call, Object want, Object got) {
+        if (want.equals(got)) {
+            passed++;
+            return;
+        }
+        failed++;
+        System.out.println(call + " answered " + got + ", due is " + want);
+    }
+
+    /** The call must throw just this exception, by a throw of Ringdays itself, and change nothing. */
+    void refused(String call, Class<? extends RuntimeException> want, Ringdays x, Call made) {
+        long before = x.digest();
+        try {
+            due(call, want.getName(), made.answer());
+        } catch (RuntimeException e) {
+            due(call + " throws", want, e.getClass());
+            due(call + " throws itself", "Ringdays", e.getStackTrace()[0].getClassName());
+        }
+        due("digest() behind " + call, before, x.digest());
+    }
+
+    void noCell(String call, Ringdays x, Call made) {
+        refused(call, IndexOutOfBoundsException.class, x, made);
+    }
+
+    void noNumber(String call, Ringdays x, Call made) {
+        refused(call, IllegalArgumentException.class, x, made);
+    }
+
+    /** The closing line, and the exit code 1 if a check failed. */
+    void end() {
+        System.out.println(passed + " passed, " + failed + " failed");
+        if (failed != 0) {
+            System.exit(1);
+        }
+    }
+}
