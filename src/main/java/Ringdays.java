@@ -314,7 +314,8 @@ public final class Ringdays {
         return mixed(d, isSound() ? 1 : 0);
     }
 
-    // ---- cells: each read or write of a row by a caller's number goes through the first two
+    // ---- cells: a caller's number reaches a row through numberIn and write alone, which refuse it
+    // before anything is changed
 
     private static int numberIn(int[] row, int cell) {
         if (cell < 0 || cell >= CELLS) {
@@ -348,9 +349,7 @@ public final class Ringdays {
         return before;
     }
 
-    // The cell that is written is looked at first: an act that throws must not have changed anything.
     private int copy(int[] row, int cell, int from) {
-        numberIn(row, cell);
         return become(row, cell, numberIn(row, from));
     }
 
