@@ -28,6 +28,18 @@ final class Checks {
         due("digest() behind " + call, before, x.digest());
     }
 
+    /**
+     * The same of an object with something behind it, and that nothing which it keeps has changed either: a twin,
+     * to which the call is not made, must tell the same of itself.
+     */
+    void refusedEverywhere(String told, Class<? extends RuntimeException> want, Refusals.Call made, int number) {
+        for (int which = 0; which < Samples.COUNT; which++) {
+            Ringdays x = Samples.made(which);
+            refused(told + ", sample " + which, want, x, () -> made.answer(x, number));
+            due("all behind " + told + ", sample " + which, Samples.all(Samples.made(which)), Samples.all(x));
+        }
+    }
+
     void noCell(String call, Ringdays x, Call made) {
         refused(call, IndexOutOfBoundsException.class, x, made);
     }

@@ -1,9 +1,8 @@
-/** Each promise by its number: ordinary inputs, the edges that the document names, and calls that throw. */
+/** Each promise by its number: ordinary inputs, some edges, and calls that throw; the Edge tests have every edge. */
 public final class PromiseTest {
     private static final Checks CHECKS = new Checks();
     private static final int LEAST = Integer.MIN_VALUE;
     private static final int MOST = Integer.MAX_VALUE;
-    private static final int[] NO_CELLS = {-1, 4, LEAST, MOST};
     private static final int[] NO_MARKS = {-1, 2, LEAST, MOST};
     private static final String[] DAYS = {
         "MONDAY", "TUESDAY", "WEDNESDAY", "THURSDAY", "FRIDAY", "SATURDAY", "SUNDAY"
@@ -15,11 +14,6 @@ public final class PromiseTest {
     private static final int[] LENGTHS = {31, 28, 31, 30, 31, 30, 31, 31, 30, 31, 30, 31};
     private static final int[] FIRSTS = {1, 32, 60, 91, 121, 152, 182, 213, 244, 274, 305, 335};
     private static final int[] QUARTERS = {1, 1, 1, 4, 4, 4, 7, 7, 7, 10, 10, 10};
-
-    /** A call that is told one number which may be none of a CELL. */
-    private interface CellCall {
-        Object answer(Ringdays x, int cell);
-    }
 
     public static void main(String[] args) {
         promise1New();
@@ -47,8 +41,6 @@ public final class PromiseTest {
         promise53Knock();
         promise54IsSound();
         promise55Digest();
-        noSuchCell();
-        noSuchOtherCell();
         CHECKS.end();
     }
 
@@ -609,54 +601,5 @@ public final class PromiseTest {
             d = d * 31 * 31 * 31 + 1;
         }
         return d * 31 * 31 * 31 + 1;
-    }
-
-    private static void noSuchCell() {
-        CellCall[] calls = {
-            (x, cell) -> x.day(cell, 1), (x, cell) -> x.dayNumber(cell), (x, cell) -> x.dayPlace(cell),
-            (x, cell) -> x.dayName(cell), (x, cell) -> x.dayOn(cell, 1), (x, cell) -> x.dayBack(cell, 1),
-            (x, cell) -> x.dayOnFar(cell, 0, 1), (x, cell) -> x.dayBackFar(cell, 0, 1),
-            (x, cell) -> x.dayAt(cell, 1), (x, cell) -> x.dayAhead(cell, 1),
-            (x, cell) -> x.dayAtFar(cell, 0, 1, false), (x, cell) -> x.dayTwice(cell, 1, 1),
-            (x, cell) -> x.dayCopy(cell, 0), (x, cell) -> x.daySwap(cell, 0), (x, cell) -> x.dayOrder(cell, 0),
-            (x, cell) -> x.isSameDay(cell, 0), (x, cell) -> x.isDay(cell, 1),
-            (x, cell) -> x.month(cell, 1), (x, cell) -> x.monthNumber(cell), (x, cell) -> x.monthPlace(cell),
-            (x, cell) -> x.monthName(cell), (x, cell) -> x.monthOn(cell, 1), (x, cell) -> x.monthBack(cell, 1),
-            (x, cell) -> x.monthOnFar(cell, 0, 1), (x, cell) -> x.monthBackFar(cell, 0, 1),
-            (x, cell) -> x.monthAt(cell, 1), (x, cell) -> x.monthAhead(cell, 1),
-            (x, cell) -> x.monthAtFar(cell, 0, 1, false), (x, cell) -> x.monthTwice(cell, 1, 1),
-            (x, cell) -> x.monthCopy(cell, 0), (x, cell) -> x.monthSwap(cell, 0), (x, cell) -> x.monthOrder(cell, 0),
-            (x, cell) -> x.isSameMonth(cell, 0), (x, cell) -> x.isMonth(cell, 1),
-            (x, cell) -> x.length(cell, true), (x, cell) -> x.least(cell), (x, cell) -> x.greatest(cell),
-            (x, cell) -> x.first(cell, true), (x, cell) -> x.quarter(cell), (x, cell) -> x.toQuarter(cell),
-            (x, cell) -> x.step(cell, 0, true), (x, cell) -> x.stepBack(cell, 0, true),
-            (x, cell) -> x.begins(cell, 0, true), (x, cell) -> x.date(cell, 0, true, 1),
-            (x, cell) -> x.areAlike(cell, 0, true)
-        };
-        refuseEach("no such cell, call ", calls);
-    }
-
-    private static void noSuchOtherCell() {
-        CellCall[] calls = {
-            (x, cell) -> x.dayCopy(1, cell), (x, cell) -> x.daySwap(1, cell), (x, cell) -> x.dayOrder(1, cell),
-            (x, cell) -> x.isSameDay(1, cell), (x, cell) -> x.monthCopy(1, cell), (x, cell) -> x.monthSwap(1, cell),
-            (x, cell) -> x.monthOrder(1, cell), (x, cell) -> x.isSameMonth(1, cell),
-            (x, cell) -> x.step(1, cell, true), (x, cell) -> x.stepBack(1, cell, true),
-            (x, cell) -> x.begins(1, cell, true), (x, cell) -> x.date(1, cell, true, 1),
-            (x, cell) -> x.areAlike(1, cell, true)
-        };
-        refuseEach("no such other cell, call ", calls);
-    }
-
-    private static void refuseEach(String told, CellCall[] calls) {
-        for (int place = 0; place < calls.length; place++) {
-            CellCall call = calls[place];
-            Ringdays x = withBoth(0, 5, 0, 3);
-            x.day(1, 6);
-            x.month(1, 9);
-            for (int cell : NO_CELLS) {
-                CHECKS.noCell(told + place + ", cell " + cell, x, () -> call.answer(x, cell));
-            }
-        }
     }
 }
