@@ -1,3 +1,5 @@
+import java.util.Arrays;
+
 /** Counts what was checked, and prints each answer that is not the one that is due. */
 final class Checks {
     interface Call {
@@ -46,6 +48,17 @@ final class Checks {
 
     void noNumber(String call, Ringdays x, Call made) {
         refused(call, IllegalArgumentException.class, x, made);
+    }
+
+    /** All of the tests; one that ends in an exception fails, and the others are run all the same. */
+    void run(Runnable... tests) {
+        for (int place = 0; place < tests.length; place++) {
+            try {
+                tests[place].run();
+            } catch (RuntimeException e) {
+                due("test " + (place + 1), "no exception", e + " at " + Arrays.toString(e.getStackTrace()));
+            }
+        }
     }
 
     /** The closing line, and the exit code 1 if a check failed. */

@@ -6,39 +6,40 @@ public final class EdgeDescriptionTest {
     private static final int[] LENGTHS = {31, 28, 31, 30, 31, 30, 31, 31, 30, 31, 30, 31};
 
     public static void main(String[] args) {
-        cellsAre0To3();
-        eachCellHasItsOwn();
-        atFirstTheNumberIs1();
-        marksAre0And1();
-        atFirstNothingIsKept();
-        whatThrowsChangesNothing();
-        theFirstNamedIsThrown();
-        numbersGoFrom1ToTheLast();
-        placeIsTheNumberLess1();
-        oneOnFromTheLastIsTheFirst();
-        soManyOnIsSoOftenOneOn();
-        zeroOnIsItself();
-        oneBackIsTheOtherWay();
-        onBelow0IsBack();
-        backBelow0IsOn();
-        theLeastNumberIsTheOtherWay();
-        theGreatestNumber();
-        lengthOfEach();
-        lengthOf2InALongYear();
-        firstIsFrom1On();
-        firstIsTheLengthsOfTheSmaller();
-        quarters();
-        lowBelow0CountsMore();
-        eachAmountIsOfJustTwo();
-        zeroAnd7Are7();
-        minus1AndMinus1AreMinus1();
-        theLeastAmount();
-        theGreatestAmount();
-        anAmountBelow0IsTheOtherWay();
-        aMonthBeginsFirstLess1On();
-        theDayNumberFallsThatLess1On();
-        lengthIsAsToldInThatCallAlone();
-        theCellsMayBeTheSame();
+        CHECKS.run(
+                EdgeDescriptionTest::cellsAre0To3,
+                EdgeDescriptionTest::eachCellHasItsOwn,
+                EdgeDescriptionTest::atFirstTheNumberIs1,
+                EdgeDescriptionTest::marksAre0And1,
+                EdgeDescriptionTest::atFirstNothingIsKept,
+                EdgeDescriptionTest::whatThrowsChangesNothing,
+                EdgeDescriptionTest::theFirstNamedIsThrown,
+                EdgeDescriptionTest::numbersGoFrom1ToTheLast,
+                EdgeDescriptionTest::placeIsTheNumberLess1,
+                EdgeDescriptionTest::oneOnFromTheLastIsTheFirst,
+                EdgeDescriptionTest::soManyOnIsSoOftenOneOn,
+                EdgeDescriptionTest::zeroOnIsItself,
+                EdgeDescriptionTest::oneBackIsTheOtherWay,
+                EdgeDescriptionTest::onBelow0IsBack,
+                EdgeDescriptionTest::backBelow0IsOn,
+                EdgeDescriptionTest::theLeastNumberIsTheOtherWay,
+                EdgeDescriptionTest::theGreatestNumber,
+                EdgeDescriptionTest::lengthOfEach,
+                EdgeDescriptionTest::lengthOf2InALongYear,
+                EdgeDescriptionTest::firstIsFrom1On,
+                EdgeDescriptionTest::firstIsTheLengthsOfTheSmaller,
+                EdgeDescriptionTest::quarters,
+                EdgeDescriptionTest::lowBelow0CountsMore,
+                EdgeDescriptionTest::eachAmountIsOfJustTwo,
+                EdgeDescriptionTest::zeroAnd7Are7,
+                EdgeDescriptionTest::minus1AndMinus1AreMinus1,
+                EdgeDescriptionTest::theLeastAmount,
+                EdgeDescriptionTest::theGreatestAmount,
+                EdgeDescriptionTest::anAmountBelow0IsTheOtherWay,
+                EdgeDescriptionTest::aMonthBeginsFirstLess1On,
+                EdgeDescriptionTest::theDayNumberFallsThatLess1On,
+                EdgeDescriptionTest::lengthIsAsToldInThatCallAlone,
+                EdgeDescriptionTest::theCellsMayBeTheSame);
         CHECKS.end();
     }
 
@@ -50,42 +51,46 @@ public final class EdgeDescriptionTest {
 
     private static void goesOn(String sentence, Ring ring, int from, int many, int due) {
         String told = sentence + ": " + many + " on from " + ring.told + " " + from;
-        Ringdays x = ring.with(2, from);
-        due(told + ", at", due, ring.at(x, 2, many));
-        due(told + ", twice", due, ring.twice(x, 2, many, 0));
-        due(told + ", twice behind 0", due, ring.twice(x, 2, 0, many));
-        due(told + ", only asked", from, ring.number(x, 2));
-        due(told + ", on", due, ring.on(x, 2, many));
-        due(told + ", then", due, ring.number(x, 2));
+        int cell = from % 4;
+        Ringdays x = ring.with(cell, from);
+        due(told + ", at", due, ring.at(x, cell, many));
+        due(told + ", twice", due, ring.twice(x, cell, many, 0));
+        due(told + ", twice behind 0", due, ring.twice(x, cell, 0, many));
+        due(told + ", only asked", from, ring.number(x, cell));
+        due(told + ", on", due, ring.on(x, cell, many));
+        due(told + ", then", due, ring.number(x, cell));
         goesOnFar(sentence, ring, from, many < 0 ? -1 : 0, many, due);
     }
 
     private static void goesBack(String sentence, Ring ring, int from, int many, int due) {
         String told = sentence + ": " + many + " back from " + ring.told + " " + from;
-        Ringdays x = ring.with(1, from);
-        due(told + ", ahead", due, ring.ahead(x, 1, many));
-        due(told + ", only asked", from, ring.number(x, 1));
-        due(told + ", back", due, ring.back(x, 1, many));
-        due(told + ", then", due, ring.number(x, 1));
+        int cell = from % 4;
+        Ringdays x = ring.with(cell, from);
+        due(told + ", ahead", due, ring.ahead(x, cell, many));
+        due(told + ", only asked", from, ring.number(x, cell));
+        due(told + ", back", due, ring.back(x, cell, many));
+        due(told + ", then", due, ring.number(x, cell));
         goesBackFar(sentence, ring, from, many < 0 ? -1 : 0, many, due);
     }
 
     private static void goesOnFar(String sentence, Ring ring, int from, int high, int low, int due) {
         String told = sentence + ": " + high + " and " + low + " on from " + ring.told + " " + from;
-        Ringdays x = ring.with(3, from);
-        due(told + ", atFar", due, ring.atFar(x, 3, high, low, false));
-        due(told + ", only asked", from, ring.number(x, 3));
-        due(told + ", onFar", due, ring.onFar(x, 3, high, low));
-        due(told + ", then", due, ring.number(x, 3));
+        int cell = from % 4;
+        Ringdays x = ring.with(cell, from);
+        due(told + ", atFar", due, ring.atFar(x, cell, high, low, false));
+        due(told + ", only asked", from, ring.number(x, cell));
+        due(told + ", onFar", due, ring.onFar(x, cell, high, low));
+        due(told + ", then", due, ring.number(x, cell));
     }
 
     private static void goesBackFar(String sentence, Ring ring, int from, int high, int low, int due) {
         String told = sentence + ": " + high + " and " + low + " back from " + ring.told + " " + from;
-        Ringdays x = ring.with(0, from);
-        due(told + ", atFar back", due, ring.atFar(x, 0, high, low, true));
-        due(told + ", only asked", from, ring.number(x, 0));
-        due(told + ", backFar", due, ring.backFar(x, 0, high, low));
-        due(told + ", then", due, ring.number(x, 0));
+        int cell = from % 4;
+        Ringdays x = ring.with(cell, from);
+        due(told + ", atFar back", due, ring.atFar(x, cell, high, low, true));
+        due(told + ", only asked", from, ring.number(x, cell));
+        due(told + ", backFar", due, ring.backFar(x, cell, high, low));
+        due(told + ", then", due, ring.number(x, cell));
     }
 
     /** An amount both ways from each number; rest is what is left of it when all whole rounds are away. */

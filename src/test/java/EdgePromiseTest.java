@@ -1,6 +1,8 @@
 import java.lang.reflect.Method;
 import java.lang.reflect.Modifier;
 import java.math.BigInteger;
+import java.time.DayOfWeek;
+import java.time.Month;
 import java.util.ArrayList;
 import java.util.Arrays;
 import java.util.List;
@@ -14,52 +16,53 @@ public final class EdgePromiseTest {
     private static final int[] LENGTHS = {31, 28, 31, 30, 31, 30, 31, 31, 30, 31, 30, 31};
 
     public static void main(String[] args) {
-        eachCallThatThrowsIsInTheTables();
-        throwsIfThereIsNoSuchCell();
-        throwsIfThereIsNoSuchOtherCell();
-        throwsIfThereAreNeither();
-        throwsIfThereIsNoSuchMark();
-        throwsIfNumberIsNot1To7();
-        throwsIfNumberIsNot1To12();
-        throwsIfNumberIsNot1ToLength();
-        throwsIfNumberIsNot1ToLengthInSuchAYear();
-        throwsIfNothingIsKeptThere();
-        newDaysAndMonthsAreNobodyElses();
-        becomesTheOneWithANumber();
-        nameOfTheFirstAndTheLast();
-        twiceIsBothOneBehindTheOther();
-        copyOrStays();
-        swapOfTwoAndOfOne();
-        orderAtBothEnds();
-        isSameAtBothEnds();
-        isOneAtBothEnds();
-        leastAndGreatest();
-        toQuarterReturnsHowManyBack();
-        stepGoesOnByTheLengthOfTheOneThatPasses();
-        stepGoesRoundBothEnds();
-        stepBackGoesByTheLengthOfTheOneAhead();
-        stepBackGoesRoundBothEnds();
-        stepsTellBothAsTheyAreThen();
-        beginsOfTheFirstMonth();
-        areAlikeInEachSuchYear();
-        keepReturnsIfSomethingWasKept();
-        keepInPlaceOfWhatWasKept();
-        keepOfOneMarkLeavesTheOther();
-        whatIsKeptDoesNotGoOnWithTheCells();
-        backThatStaysKept();
-        backReturnsHowManyAreOtherOnes();
-        isKeptBehindKeepAlone();
-        namesWithOneSignBetween();
-        actsOfEachOnce();
-        actsBehindWhichAllIsAsAhead();
-        actsOfWhatThrewAreNone();
-        knockTellsWithThis();
-        isSoundFromEachDayAndMonth();
-        digestStartsWithWhatIsAtFirst();
-        digestWrapsAround();
-        digestTellsTheLastKnock();
-        digestTellsIsKeptOfBothMarks();
-        theLastOf512Calls();
+        CHECKS.run(
+                EdgePromiseTest::eachCallThatThrowsIsInTheTables,
+                EdgePromiseTest::throwsIfThereIsNoSuchCell,
+                EdgePromiseTest::throwsIfThereIsNoSuchOtherCell,
+                EdgePromiseTest::throwsIfThereAreNeither,
+                EdgePromiseTest::throwsIfThereIsNoSuchMark,
+                EdgePromiseTest::throwsIfNumberIsNot1To7,
+                EdgePromiseTest::throwsIfNumberIsNot1To12,
+                EdgePromiseTest::throwsIfNumberIsNot1ToLength,
+                EdgePromiseTest::throwsIfNumberIsNot1ToLengthInSuchAYear,
+                EdgePromiseTest::throwsIfNothingIsKeptThere,
+                EdgePromiseTest::newDaysAndMonthsAreNobodyElses,
+                EdgePromiseTest::becomesTheOneWithANumber,
+                EdgePromiseTest::nameOfTheFirstAndTheLast,
+                EdgePromiseTest::twiceIsBothOneBehindTheOther,
+                EdgePromiseTest::copyOrStays,
+                EdgePromiseTest::swapOfTwoAndOfOne,
+                EdgePromiseTest::orderAtBothEnds,
+                EdgePromiseTest::isSameAtBothEnds,
+                EdgePromiseTest::isOneAtBothEnds,
+                EdgePromiseTest::leastAndGreatest,
+                EdgePromiseTest::toQuarterReturnsHowManyBack,
+                EdgePromiseTest::stepGoesOnByTheLengthOfTheOneThatPasses,
+                EdgePromiseTest::stepGoesRoundBothEnds,
+                EdgePromiseTest::stepBackGoesByTheLengthOfTheOneAhead,
+                EdgePromiseTest::stepBackGoesRoundBothEnds,
+                EdgePromiseTest::stepsTellBothAsTheyAreThen,
+                EdgePromiseTest::beginsOfTheFirstMonth,
+                EdgePromiseTest::areAlikeInEachSuchYear,
+                EdgePromiseTest::keepReturnsIfSomethingWasKept,
+                EdgePromiseTest::keepInPlaceOfWhatWasKept,
+                EdgePromiseTest::keepOfOneMarkLeavesTheOther,
+                EdgePromiseTest::whatIsKeptDoesNotGoOnWithTheCells,
+                EdgePromiseTest::backThatStaysKept,
+                EdgePromiseTest::backReturnsHowManyAreOtherOnes,
+                EdgePromiseTest::isKeptBehindKeepAlone,
+                EdgePromiseTest::namesWithOneSignBetween,
+                EdgePromiseTest::actsOfEachOnce,
+                EdgePromiseTest::actsBehindWhichAllIsAsAhead,
+                EdgePromiseTest::actsOfWhatThrewAreNone,
+                EdgePromiseTest::knockTellsWithThis,
+                EdgePromiseTest::isSoundFromEachDayAndMonth,
+                EdgePromiseTest::digestStartsWithWhatIsAtFirst,
+                EdgePromiseTest::digestWrapsAround,
+                EdgePromiseTest::digestTellsTheLastKnock,
+                EdgePromiseTest::digestTellsIsKeptOfBothMarks,
+                EdgePromiseTest::theLastOf512Calls);
         CHECKS.end();
     }
 
@@ -200,12 +203,18 @@ public final class EdgePromiseTest {
         }
     }
 
-    /** Promises 5 and 22: "Returns the NAME" */
+    /** Promises 5 and 22: "Returns the NAME": the table's ends, and that none of the names between is another one. */
     private static void nameOfTheFirstAndTheLast() {
         due("5: dayName of 1", "MONDAY", Ring.DAYS.with(0, 1).dayName(0));
         due("5: dayName of 7", "SUNDAY", Ring.DAYS.with(3, 7).dayName(3));
         due("22: monthName of 1", "JANUARY", Ring.MONTHS.with(0, 1).monthName(0));
         due("22: monthName of 12", "DECEMBER", Ring.MONTHS.with(3, 12).monthName(3));
+        for (DayOfWeek day : DayOfWeek.values()) {
+            due("5: dayName", day.name(), Ring.DAYS.with(1, day.getValue()).dayName(1));
+        }
+        for (Month month : Month.values()) {
+            due("22: monthName", month.name(), Ring.MONTHS.with(2, month.getValue()).monthName(2));
+        }
     }
 
     /** Promises 13 and 30: "to which one comes by both, one behind the other": both together have 33 bits. */
@@ -250,6 +259,9 @@ public final class EdgePromiseTest {
             due(ring.told + "Swap of one cell with itself", ring.size, ring.swap(x, 3, 3));
             due(ring.told + "s then, that one", ring.size, ring.number(x, 3));
             due(ring.told + "Swap of two that are the same", 1, ring.swap(x, 1, 2));
+            due(ring.told + "Swap, the first one behind the other", 1, ring.swap(x, 3, 1));
+            due(ring.told + "s then, the other one ahead of it", ring.size, ring.number(x, 1));
+            due(ring.told + "s then, the first one", 1, ring.number(x, 3));
         }
     }
 
