@@ -49,7 +49,6 @@ public final class FaceTest {
         return plain;
     }
 
-
     private static List<String> visibleFields() {
         List<String> visible = new ArrayList<>();
         for (Field field : Ringdays.class.getDeclaredFields()) {
